@@ -123,6 +123,7 @@ public final class InfluenceRows {
     }
 
     public long at(int row, int member, int place, int part) {
+        frame.prepare();
         if (!isAnswered(row, part) || !isPlace(member, place)) {
             return refusal(part);
         }
@@ -139,13 +140,14 @@ public final class InfluenceRows {
     }
 
     public long area(int row, int sign, int part) {
+        frame.prepare();
         if (!isAnswered(row, part) || (sign != 1 && sign != -1)) {
             return refusal(part);
         }
         long key = 200 + row * 2 + (sign > 0 ? 1 : 0);
         if (key != toldKey) {
             probe.aim(rowWhat[row], rowBeam[row], rowPlace[row]);
-            measureArea(sign);
+            areas.measure(probe, beams, sign, ratio);
             ratio.reduce();
             toldKey = key;
         }
@@ -153,6 +155,7 @@ public final class InfluenceRows {
     }
 
     public boolean turned(int row) {
+        frame.prepare();
         if (!isRow(row) || rowWhat[row] != MOVE || isLoose()) {
             return false;
         }
@@ -166,6 +169,7 @@ public final class InfluenceRows {
     }
 
     public boolean sums() {
+        frame.prepare();
         if (isLoose()) {
             return false;
         }
@@ -193,6 +197,7 @@ public final class InfluenceRows {
     }
 
     public long move(int node, long above, long below, int part) {
+        frame.prepare();
         boolean fits = isNode(node) && above >= -1000 && above <= 1000 && below >= 1 && below <= 1000;
         if (!fits || part < -1 || isLoose()) {
             return refusal(part);
@@ -256,8 +261,8 @@ public final class InfluenceRows {
         return row >= 0 && row < rows;
     }
 
+    /** Good only while the frame is prepared. */
     private boolean isLoose() {
-        frame.prepare();
         return frame.looseNodes() > 0;
     }
 
@@ -277,19 +282,6 @@ public final class InfluenceRows {
 
     private static long refusal(int part) {
         return part == -1 ? NONE : BAD;
-    }
-
-    private void measureArea(int sign) {
-        areas.begin(sign);
-        for (int k = 0; k < beams.many; k++) {
-            for (int place = 0; place <= LAST_PLACE; place++) {
-                probe.put(k, place);
-                probe.measure(register);
-                areas.reach(register, place == 0 ? 0 : beams.span[k]);
-            }
-        }
-        probe.under(register);
-        areas.tell(register, ratio);
     }
 
     /** Both sides are brought over one divisor: only the stiffnesses differ in it. */
@@ -531,7 +523,10 @@ public final class InfluenceRows {
                 findScale();
                 layOut();
                 assemble();
-                sweepAll();
+                fillCells();
+                for (int slot = 0; slot < SLOTS; slot++) {
+                    sweep(slot);
+                }
                 findLoose();
                 known = true;
             }
@@ -638,8 +633,7 @@ public final class InfluenceRows {
             }
         }
 
-        /** A pivot of 0 stays unswept: the row can move there without any load. */
-        private void sweepAll() {
+        private void fillCells() {
             for (int i = 0; i < SLOTS; i++) {
                 swept[i] = false;
                 for (int j = 0; j <= i; j++) {
@@ -647,16 +641,19 @@ public final class InfluenceRows {
                 }
             }
             last.takeLong(1);
-            for (int k = 0; k < SLOTS; k++) {
-                if (free[k] && cellOf(k, k).sign != 0) {
-                    sweep(k);
-                }
-            }
         }
 
-        /** All cells stay whole: each is a minor of the system, so the division leaves nothing. */
+        /**
+         * Exchanges a slot's move for its load. All cells stay whole: each is a minor of the system,
+         * so the division leaves nothing. A slot whose pivot is 0 stays unswept: the row can move
+         * there without any load.
+         */
         private void sweep(int k) {
-            pivot.take(cellOf(k, k));
+            Big middle = cellOf(k, k);
+            if (!free[k] || middle.sign == 0) {
+                return;
+            }
+            pivot.take(middle);
             for (int i = 0; i < SLOTS; i++) {
                 for (int j = 0; j <= i; j++) {
                     if (free[i] && free[j] && i != k && j != k) {
@@ -664,7 +661,6 @@ public final class InfluenceRows {
                     }
                 }
             }
-            Big middle = cellOf(k, k);
             middle.takeLong(0);
             middle.addTimes(last, -1);
             last.take(pivot);
@@ -887,43 +883,46 @@ public final class InfluenceRows {
         private final Big drop = new Big();
         private final Big first = new Big();
         private final Big second = new Big();
-        private int side;
 
-        void begin(int newSide) {
-            side = newSide;
+        /** The probe is aimed at the row; what is told is not in least terms yet. */
+        void measure(Probe probe, Beams beams, int side, Ratio target) {
             whole.takeLong(0);
             crossUpper.takeLong(0);
             crossLower.takeLong(1);
+            for (int k = 0; k < beams.many; k++) {
+                for (int place = 0; place <= LAST_PLACE; place++) {
+                    before.take(now);
+                    probe.put(k, place);
+                    probe.measure(now);
+                    now.sign *= side;
+                    if (place > 0) {
+                        join(beams.span[k]);
+                    }
+                }
+            }
+            target.upper.product(whole, crossLower);
+            target.upper.addTimes(crossUpper, 1);
+            probe.under(first);
+            second.product(first, crossLower);
+            target.lower.takeLong(0);
+            target.lower.addTimes(second, 8);
         }
 
-        /** The next value, span behind the one before it (0: nothing lies between them). */
-        void reach(Big value, long span) {
-            before.take(now);
-            now.take(value);
-            now.sign *= side;
-            if (span == 0) {
-                return;
-            }
+        /**
+         * What lies above 0 between two values. Where the line crosses 0 that is
+         * span * above * above / (above - below), made small by a common divisor first.
+         */
+        private void join(long span) {
             if (before.sign >= 0 && now.sign >= 0) {
                 whole.addTimes(before, span);
                 whole.addTimes(now, span);
-            } else if (before.sign > 0 && now.sign < 0) {
-                addCrossing(before, now, span);
-            } else if (before.sign < 0 && now.sign > 0) {
-                addCrossing(now, before, span);
+                return;
             }
-        }
-
-        void tell(Big under, Ratio target) {
-            target.upper.product(whole, crossLower);
-            target.upper.addTimes(crossUpper, 1);
-            first.product(under, crossLower);
-            target.lower.takeLong(0);
-            target.lower.addTimes(first, 8);
-        }
-
-        /** Adds span * above * above / (above - below), in terms made small by a common divisor. */
-        private void addCrossing(Big above, Big below, long span) {
+            if (before.sign * now.sign >= 0) {
+                return;
+            }
+            Big above = before.sign > 0 ? before : now;
+            Big below = before.sign > 0 ? now : before;
             Big common = divisor.of(above, below);
             first.take(above);
             first.split(common, peak);
@@ -1109,7 +1108,7 @@ public final class InfluenceRows {
             times.makeRoom(most + 1);
             makeRoom(size + 1);
             long tens = by.tensOfTop();
-            long head = by.front(by.size - 1, tens);
+            long head = by.front(by.size - 1, 0, tens);
             for (int shift = most; shift >= 0; shift--) {
                 long often = 0;
                 for (int i = 0; i < MOST_GUESSES; i++) {
@@ -1136,15 +1135,16 @@ public final class InfluenceRows {
             return tens;
         }
 
-        /** The digits from the limb above index on, down to tens into the one below it. */
-        private long front(int index, long tens) {
-            long above = (limbAt(index + 1) * BASE + limbAt(index)) * tens;
-            return tens > 1 ? above + limbAt(index - 1) / (BASE / tens) : above;
+        /** The digits of above and of the limb at index, and as many more as tens has noughts. */
+        private long front(int index, long above, long tens) {
+            long digits = (above * BASE + limb[index]) * tens;
+            return index > 0 && tens > 1 ? digits + limb[index - 1] / (BASE / tens) : digits;
         }
 
         /** Never too much; 0 only when nothing is left to take away. */
         private long guess(Big by, int shift, long head, long tens) {
-            long seen = front(shift + by.size - 1, tens);
+            int top = shift + by.size;
+            long seen = front(top - 1, limb[top], tens);
             if (head < 0 || seen < head) {
                 return 0;
             }
@@ -1153,8 +1153,8 @@ public final class InfluenceRows {
         }
 
         private boolean reaches(Big by, int shift) {
-            for (int i = by.size; i >= 0; i--) {
-                long gap = limbAt(shift + i) - by.limbAt(i);
+            for (int i = by.size - 1; i >= 0; i--) {
+                int gap = limb[shift + i] - by.limb[i];
                 if (gap != 0) {
                     return gap > 0;
                 }
