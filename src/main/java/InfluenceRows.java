@@ -14,8 +14,12 @@ public final class InfluenceRows {
     private static final int MOMENT = 0;
     private static final int MOVE = 2;
     private static final int REACTION = 3;
-    private static final long MOST_SETTLED = 1000;
+    private static final long MOST = 1000;
+
+    // Parts of one fraction are asked one after another: a key says which one the ratio holds.
     private static final long NOTHING_TOLD = -1;
+    private static final long FIRST_AREA = 200;
+    private static final long FIRST_MOVE = 1000;
 
     private final Beams beams;
     private final Beams draft;
@@ -144,7 +148,7 @@ public final class InfluenceRows {
         if (!isAnswered(row, part) || (sign != 1 && sign != -1)) {
             return refusal(part);
         }
-        long key = 200 + row * 2 + (sign > 0 ? 1 : 0);
+        long key = FIRST_AREA + row * 2 + (sign > 0 ? 1 : 0);
         if (key != toldKey) {
             probe.aim(rowWhat[row], rowBeam[row], rowPlace[row]);
             areas.measure(probe, beams, sign, ratio);
@@ -188,7 +192,7 @@ public final class InfluenceRows {
     }
 
     public boolean settled(int node, long v) {
-        if (!isHeld(node) || v < -MOST_SETTLED || v > MOST_SETTLED) {
+        if (!isHeld(node) || v < -MOST || v > MOST) {
             return false;
         }
         beams.sunk[node] = v;
@@ -198,11 +202,11 @@ public final class InfluenceRows {
 
     public long move(int node, long above, long below, int part) {
         frame.prepare();
-        boolean fits = isNode(node) && above >= -1000 && above <= 1000 && below >= 1 && below <= 1000;
+        boolean fits = isNode(node) && above >= -MOST && above <= MOST && below >= 1 && below <= MOST;
         if (!fits || part < -1 || isLoose()) {
             return refusal(part);
         }
-        long key = 1000 + (node * 2001L + above + 1000) * 1001 + below;
+        long key = FIRST_MOVE + (node * (2 * MOST + 1) + above + MOST) * (MOST + 1) + below;
         if (key != toldKey) {
             measureSettled(node, above, below);
             ratio.reduce();
@@ -330,6 +334,7 @@ public final class InfluenceRows {
         final long[] sunk = new long[MOST + 1];
         int many;
 
+        /** As the text "F1x1." tells it. */
         Beams() {
             Arrays.fill(span, 1);
             Arrays.fill(stiff, 1);
@@ -570,7 +575,7 @@ public final class InfluenceRows {
             return BAD;
         }
 
-        /** left times the inverse times right, over the divisor, into answer. */
+        /** Left times the inverse times right; it stands over the divisor. */
         void pair(long[] left, long[] right, Big answer) {
             answer.takeLong(0);
             for (int i = 0; i < SLOTS; i++) {
@@ -731,9 +736,7 @@ public final class InfluenceRows {
                     aimAtMoment();
                     break;
                 case MOVE:
-                    layShape(left, beam, place);
-                    gain = 6 * beams.stiff[beam] * frame.scale();
-                    whole = 24576 * beams.stiff[beam];
+                    aimAtMove();
                     break;
                 case REACTION:
                     aimAtReactions();
@@ -821,6 +824,13 @@ public final class InfluenceRows {
             layEnds(2 * ratio(), 1, 1);
             gain = -6 * beams.stiff[beam] * ratio() * ratio();
             whole = 64 * frame.scale();
+        }
+
+        /** Two shapes are each over 64, and a load's own bending is over 6 times the stiffness. */
+        private void aimAtMove() {
+            layShape(left, beam, place);
+            gain = 6 * beams.stiff[beam] * frame.scale();
+            whole = 6 * 64 * 64 * beams.stiff[beam];
         }
 
         private void aimAtReactions() {
@@ -1112,12 +1122,12 @@ public final class InfluenceRows {
             for (int shift = most; shift >= 0; shift--) {
                 long often = 0;
                 for (int i = 0; i < MOST_GUESSES; i++) {
-                    long guess = guess(by, shift, head, tens);
-                    if (guess == 0) {
+                    long more = guess(by, shift, head, tens);
+                    if (more == 0) {
                         break;
                     }
-                    takeAway(by, guess, shift);
-                    often += guess;
+                    takeAway(by, more, shift);
+                    often += more;
                 }
                 times.limb[shift] = (int) often;
             }

@@ -606,6 +606,12 @@ public final class PromiseTest {
             }
         }
         due("a lower part that goes on", found > 0, true);
+        long[] below = {1, 836343303050623731L, 726875797400208256L, 229, 68, 0, 0};
+        long[] above = {1, 977574221439008783L, 214262595982140032L, 26, 106, 0, 0};
+        for (int part = -1; part < 6; part++) {
+            due("area(2, -1, " + part + ")", x.area(2, -1, part), below[part + 1]);
+            due("area(2, 1, " + part + ")", x.area(2, 1, part), above[part + 1]);
+        }
     }
 
     private static void turned() {
