@@ -27,6 +27,7 @@ public final class PromiseTest {
         areaWrong();
         longParts();
         turned();
+        oneAfterAnother();
         sums();
         settled();
         move();
@@ -637,6 +638,38 @@ public final class PromiseTest {
         x.hinge(2, 0, true);
         due("loose", x.solve() > 0, true);
         due("turned of a loose one", x.turned(0), false);
+    }
+
+    /** Fractions that were told last are not taken for other ones. */
+    private static void oneAfterAnother() {
+        promise = "promises 10 to 15, one after another";
+        InfluenceRows x = made("S2x1S2x1.");
+        x.row(2, 0, 2);
+        x.row(2, 1, 4);
+        x.row(3, 1, 0);
+        due("at(0, 1, 4, 1)", x.at(0, 1, 4, 1), 2);
+        due("at(1, 0, 4, 1)", x.at(1, 0, 4, 1), 1);
+        due("at(1, 1, 4, 0)", x.at(1, 1, 4, 0), 16);
+        x.turned(0);
+        due("at(1, 1, 4, 0) behind turned", x.at(1, 1, 4, 0), 16);
+        due("at(1, 1, 4, 1)", x.at(1, 1, 4, 1), 3);
+        x.sums();
+        due("at(1, 1, 4, 1) behind sums", x.at(1, 1, 4, 1), 3);
+        due("at(2, 1, 4, 0)", x.at(2, 1, 4, 0), 2);
+        due("area(2, 1, 0)", x.area(2, 1, 0), 4);
+        due("area(2, -1, 0)", x.area(2, -1, 0), 0);
+        due("area(2, 1, 0) again", x.area(2, 1, 0), 4);
+        x.settled(0, 6);
+        due("move(2, 1, 1, 0)", x.move(2, 1, 1, 0), 6);
+        x.settled(0, 8);
+        due("move(2, 1, 1, 0) behind settled", x.move(2, 1, 1, 0), 8);
+        due("move(2, 1, 2, 0)", x.move(2, 1, 2, 0), 4);
+        due("move(2, 2, 1, 0)", x.move(2, 2, 1, 0), 16);
+        due("move(0, 1, 1, 0)", x.move(0, 1, 1, 0), 8);
+        x.member(1, 1, 1);
+        due("move(2, 1, 1, 0) behind member", x.move(2, 1, 1, 0), 4);
+        x.support(2, 0, true);
+        due("move(2, 1, 1, 0) behind support", x.move(2, 1, 1, 0), 0);
     }
 
     private static void sums() {
