@@ -28,6 +28,7 @@ public final class PromiseTest {
         longParts();
         turned();
         oneAfterAnother();
+        seenAtOnce();
         sums();
         settled();
         move();
@@ -666,10 +667,52 @@ public final class PromiseTest {
         due("move(2, 1, 2, 0)", x.move(2, 1, 2, 0), 4);
         due("move(2, 2, 1, 0)", x.move(2, 2, 1, 0), 16);
         due("move(0, 1, 1, 0)", x.move(0, 1, 1, 0), 8);
+        due("move(1, 0, 1, 0)", x.move(1, 0, 1, 0), 0);
+        due("move(0, 1, 1000, 0)", x.move(0, 1, 1000, 1), 125);
+        due("move(0, 2, 1, 0)", x.move(0, 2, 1, 0), 16);
+        due("move(0, 999, 1, 0)", x.move(0, 999, 1, 0), 7992);
+        due("move(1, -1000, 1, 0)", x.move(1, -1000, 1, 0), 0);
+        due("move(0, 3, 1, 0)", x.move(0, 3, 1, 0), 24);
         x.member(1, 1, 1);
         due("move(2, 1, 1, 0) behind member", x.move(2, 1, 1, 0), 4);
         x.support(2, 0, true);
         due("move(2, 1, 1, 0) behind support", x.move(2, 1, 1, 0), 0);
+    }
+
+    /** Every call sees a change by itself, be it the first one behind it. */
+    private static void seenAtOnce() {
+        promise = "promises 7 to 15, behind a change";
+        for (int call = 0; call < 7; call++) {
+            InfluenceRows x = made("S4x1S");
+            x.row(2, 0, 2);
+            due("call " + call, firstCall(x, call), true);
+            x.support(1, 0, false);
+            due("call " + call + ", loose", firstCall(x, call), false);
+            x.support(1, 0, true);
+            due("call " + call + ", held again", firstCall(x, call), true);
+        }
+        InfluenceRows x = new InfluenceRows();
+        x.row(0, 0, 0);
+        due("at(0, 0, 0, 1), the first value of all", x.at(0, 0, 0, 1), 1);
+    }
+
+    private static boolean firstCall(InfluenceRows x, int call) {
+        switch (call) {
+            case 0:
+                return x.solve() == 0;
+            case 1:
+                return x.loose(0) == -1;
+            case 2:
+                return x.at(0, 0, 2, 0) == 4;
+            case 3:
+                return x.area(0, 1, -1) == 1;
+            case 4:
+                return x.turned(0);
+            case 5:
+                return x.sums();
+            default:
+                return x.move(0, 1, 1, 1) == 1;
+        }
     }
 
     private static void sums() {
