@@ -95,6 +95,10 @@ final class SettlingBoundaries {
         Sentences.promise(15, "How far a node is down without a load when those that are settled are down by that,");
         InfluenceRows x = Calls.made("F1x1.1x1S");
         Sentences.due("nothing is settled", Calls.move(x, 1, 1, 1), "0/1");
+        for (long v : new long[] {1, -1, 2, -2, 999, 1000, -1000, 0}) {
+            x.settled(2, v);
+            Sentences.due("the right end by " + v, Calls.move(x, 1, 1, 1), Fraction.of(5 * v, 16));
+        }
         x.settled(2, 16);
         Sentences.due("the right end", Calls.move(x, 1, 1, 1), "5/1");
         x.settled(0, -16);

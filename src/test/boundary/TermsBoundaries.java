@@ -432,6 +432,18 @@ final class TermsBoundaries {
         }
         Sentences.due("as its values say", Calls.area(y, 0, 1), areaOf(y, 0, 1, new int[] {10, 11, 9}));
         Sentences.due("as its values say, below", Calls.area(y, 0, -1), areaOf(y, 0, -1, new int[] {10, 11, 9}));
+        longestFraction();
+    }
+
+    /** The longest that a search over rows of three beams has found: twenty-seven digits over twenty-five. */
+    private static void longestFraction() {
+        InfluenceRows x = Calls.made("F11x10.12x11.11x9F");
+        x.row(0, 0, 1);
+        long[] longest = {1, 742057563700123929L, 510371710401893888L, 100452950, 1894799, 0, 0};
+        for (int part = -1; part < 6; part++) {
+            Sentences.due("the longest, part " + part, x.area(0, -1, part), longest[part + 1]);
+        }
+        Sentences.due("the longest, as its values say", Calls.area(x, 0, -1), areaOf(x, 0, -1, new int[] {11, 12, 11}));
     }
 
     private static void beyondTheLast() {

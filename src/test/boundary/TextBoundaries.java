@@ -280,13 +280,14 @@ final class TextBoundaries {
         Sentences.due("number 1", Calls.read(new InfluenceRows(), "FS1x1."), -2);
         Sentences.due("the first of two", Calls.read(new InfluenceRows(), "F1y1z"), -3);
         Sentences.due("number 49", Calls.read(new InfluenceRows(), "F".repeat(50)), -2);
-        String signs = ".STFQhx0123456789 ~";
+        Sentences.due("the sign behind 9 is no digit", Calls.read(new InfluenceRows(), "F1:x1."), -3);
+        Sentences.due("the sign before 0 is no digit", Calls.read(new InfluenceRows(), "F1/x1."), -3);
         String[] right = {"F1x1.", "Sh12x9hT", ".3x10S2x4hF", "F1x1.h11x12hS4x10T"};
         for (String text : right) {
             for (int i = 0; i <= text.length(); i++) {
-                for (int k = 0; k < signs.length(); k++) {
-                    readAs(text.substring(0, i) + signs.charAt(k) + text.substring(i));
-                    readAs(text.substring(0, i) + signs.charAt(k) + text.substring(Math.min(i + 1, text.length())));
+                for (char sign = 32; sign <= 126; sign++) {
+                    readAs(text.substring(0, i) + sign + text.substring(i));
+                    readAs(text.substring(0, i) + sign + text.substring(Math.min(i + 1, text.length())));
                 }
                 readAs(text.substring(0, i) + text.substring(Math.min(i + 1, text.length())));
             }

@@ -3,6 +3,11 @@ import java.util.function.ToLongFunction;
 /** The first section's sentence on how many calls there are, and what the face names. */
 final class WholeBoundaries {
     private static final int CALLS = 512;
+    private static final int[] FAR = {Integer.MIN_VALUE, -1000, -1, 0, 1, 2, 3, 4, 5, 8, 9, 1000, Integer.MAX_VALUE};
+    private static final String[] THROWING = {
+        "public boolean member(int k, long length, long stiff) throws ArrayIndexOutOfBoundsException;",
+        "public boolean support(int node, int axis, boolean on) throws ArrayIndexOutOfBoundsException;",
+        "public boolean hinge(int member, int end, boolean on) throws ArrayIndexOutOfBoundsException;"};
 
     private WholeBoundaries() {
     }
@@ -10,6 +15,7 @@ final class WholeBoundaries {
     static void run() {
         badAndNone();
         whichThrow();
+        noOtherThrows();
         longestUse();
     }
 
@@ -22,28 +28,60 @@ final class WholeBoundaries {
         Sentences.due("a refused sign", x.at(0, 0, 0, -1), InfluenceRows.NONE);
     }
 
-    /** All calls with numbers far out, and none throws but the three that the face says. */
+    private static InfluenceRows farAsked() {
+        InfluenceRows x = Calls.made("S4x1S2x1.");
+        x.row(2, 0, 1);
+        x.row(3, 1, 0);
+        x.settled(0, 1);
+        return x;
+    }
+
+    /** The three calls that throw, with numbers far out: only for a beam or a node that there is not. */
     private static void whichThrow() {
-        Sentences.sentence("The public face", "public boolean member(int k, long length, long stiff) throws ArrayIndexOutOfBoundsException;");
-        int[] far = {Integer.MIN_VALUE, -1000, -1, 0, 1, 2, 3, 4, 5, 8, 9, 1000, Integer.MAX_VALUE};
-        String text = "S4x1S2x1.";
-        for (int a : far) {
-            boolean beam = a == 0 || a == 1;
-            boolean node = beam || a == 2;
-            for (int b : far) {
-                InfluenceRows x = Calls.made(text);
-                x.row(2, 0, 1);
-                x.row(3, 1, 0);
-                x.settled(0, 1);
+        for (int call = 0; call < THROWING.length; call++) {
+            Sentences.sentence("The public face", THROWING[call]);
+            for (int a : FAR) {
+                boolean there = a == 0 || a == 1 || a == 2 && call == 1;
+                for (int b : FAR) {
+                    int which = call;
+                    Object want = there ? "no throw" : Calls.THROWS;
+                    Sentences.due("with " + a + ", " + b, Calls.answer(farAsked(), x -> throwingCall(x, which, a, b)), want);
+                }
+            }
+        }
+    }
+
+    private static String throwingCall(InfluenceRows x, int which, int a, int b) {
+        switch (which) {
+            case 0:
+                x.member(a, b, b);
+                break;
+            case 1:
+                x.support(a, b, false);
+                break;
+            default:
+                x.hinge(a, b, true);
+                break;
+        }
+        return "no throw";
+    }
+
+    /** The calls that the face lets throw nothing, with numbers far out (unit and read too). */
+    private static void noOtherThrows() {
+        Sentences.sentence("The public face", "public int solve(); public int loose(int k); "
+            + "public int row(int what, int member, int place); public long at(int row, int member, int place, int part); "
+            + "public long area(int row, int sign, int part); public boolean turned(int row); public boolean sums(); "
+            + "public boolean settled(int node, long v); public long move(int node, long above, long below, int part); "
+            + "public int count(int what);");
+        for (int a : FAR) {
+            for (int b : FAR) {
+                InfluenceRows x = farAsked();
                 Sentences.due("at", isThrown(x, y -> y.at(a, b, 1, 0) + y.at(1, a, b, 0) + y.at(0, 0, a, b)), false);
                 Sentences.due("area", isThrown(x, y -> y.area(a, b, 0) + y.area(0, a, b)), false);
                 Sentences.due("move", isThrown(x, y -> y.move(a, b, 1, 0) + y.move(0, a, b, 0) + y.move(0, 1, a, b)), false);
                 Sentences.due("row", isThrown(x, y -> y.row(a, b, 0) + y.row(3, a, b) + y.row(b, 0, a)), false);
                 Sentences.due("settled", isThrown(x, y -> y.settled(a, b) ? 1 : 0), false);
                 Sentences.due("others", isThrown(x, y -> y.loose(a) + y.count(a) + (y.turned(a) ? 1 : 0) + (y.unit(a) ? 1 : 0)), false);
-                Sentences.due("member(" + a + ", ..)", isThrown(x, y -> y.member(a, b, b) ? 1 : 0), !beam);
-                Sentences.due("hinge(" + a + ", ..)", isThrown(x, y -> y.hinge(a, b, true) ? 1 : 0), !beam);
-                Sentences.due("support(" + a + ", ..)", isThrown(x, y -> y.support(a, b, false) ? 1 : 0), !node);
                 Sentences.due("read", isThrown(x, y -> y.read() + y.solve() + (y.sums() ? 1 : 0)), false);
             }
         }
@@ -129,13 +167,14 @@ final class WholeBoundaries {
     }
 
     private static void textsUpToTheLast() {
+        String text = "F1x1.1x1.1x1.";
+        int before = CALLS - text.length() - 2;
         InfluenceRows x = new InfluenceRows();
-        for (int calls = 1; calls <= CALLS - 14; calls++) {
+        for (int calls = 1; calls <= before; calls++) {
             Sentences.due("call " + calls, x.unit('z'), calls <= 50);
         }
-        x.read();
-        String text = "F1x1.1x1.1x1";
+        Sentences.due("call " + (before + 1), x.read(), -1);
         Calls.collect(x, text);
-        Sentences.due("call 511 and 512", x.unit('.') ? x.read() : 0, 3);
+        Sentences.due("call 512", x.read(), 3);
     }
 }

@@ -21,6 +21,8 @@ public final class BigTest {
             product(some(most), some(most));
             split(some(2 * most), some(most));
             greatestDivisor(some(most), some(most), some(most));
+            same(some(most), some(most));
+            parts(some(most), some(most));
         }
         BigInteger one = BigInteger.ONE;
         for (int size = 1; size < 12; size++) {
@@ -34,6 +36,7 @@ public final class BigTest {
             split(power.pow(2), power.subtract(one));
         }
         split(BigInteger.TEN, BigInteger.ZERO);
+        same(BigInteger.ZERO, one);
         System.out.println("big: " + wrong + " wrong");
         if (wrong > 0) {
             System.exit(1);
@@ -84,6 +87,36 @@ public final class BigTest {
         Object divisor = made("Divisor");
         Object got = call(divisor, "of", new Class<?>[] {BIG, BIG}, big(a.multiply(c)), big(b.multiply(c)));
         due("divisor of " + a + " * " + c + " and " + b + " * " + c, value(got), a.multiply(c).gcd(b.multiply(c)));
+    }
+
+    /** A number is the same as itself, but not as one that differs by its sign, a limb or its length. */
+    private static void same(BigInteger a, BigInteger b) throws ReflectiveOperationException {
+        BigInteger[] others = {a, b, a.negate(), a.add(BigInteger.ONE), a.add(BASE), a.add(BASE.pow(2)), a.multiply(BASE), a.divide(BASE)};
+        for (BigInteger other : others) {
+            Object got = call(big(a), "isSame", new Class<?>[] {BIG}, big(other));
+            due(a + " is " + other, (Boolean) got ? BigInteger.ONE : BigInteger.ZERO,
+                a.equals(other) ? BigInteger.ONE : BigInteger.ZERO);
+        }
+    }
+
+    /** Parts of numbers longer than any row of beams has: eighteen digits each, and 0 beyond the last. */
+    private static void parts(BigInteger upper, BigInteger lower) throws ReflectiveOperationException {
+        Object ratio = made("Ratio");
+        call(fieldOf(ratio, "upper"), "take", new Class<?>[] {BIG}, big(upper));
+        call(fieldOf(ratio, "lower"), "take", new Class<?>[] {BIG}, big(lower));
+        for (int part = -1; part < 16; part++) {
+            long got = (Long) call(ratio, "part", new Class<?>[] {int.class}, part);
+            BigInteger side = part % 2 == 0 ? upper : lower;
+            BigInteger want = part < 0 ? BigInteger.valueOf(upper.signum())
+                : side.abs().divide(BASE.pow(part / 2 * 2)).mod(BASE.pow(2));
+            due("part " + part + " of " + upper + " / " + lower, BigInteger.valueOf(got), want);
+        }
+    }
+
+    private static Object fieldOf(Object on, String name) throws ReflectiveOperationException {
+        Field field = on.getClass().getDeclaredField(name);
+        field.setAccessible(true);
+        return field.get(on);
     }
 
     private static final Class<?> BIG = inside("Big");
