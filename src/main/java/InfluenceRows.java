@@ -363,12 +363,18 @@ public final class InfluenceRows {
 
         void take(Beams other) {
             many = other.many;
-            System.arraycopy(other.span, 0, span, 0, span.length);
-            System.arraycopy(other.stiff, 0, stiff, 0, stiff.length);
-            System.arraycopy(other.pin, 0, pin, 0, pin.length);
-            System.arraycopy(other.high, 0, high, 0, high.length);
-            System.arraycopy(other.stayed, 0, stayed, 0, stayed.length);
-            System.arraycopy(other.sunk, 0, sunk, 0, sunk.length);
+            for (int k = 0; k < MOST; k++) {
+                span[k] = other.span[k];
+                stiff[k] = other.stiff[k];
+            }
+            for (int end = 0; end < 2 * MOST; end++) {
+                pin[end] = other.pin[end];
+            }
+            for (int node = 0; node <= MOST; node++) {
+                high[node] = other.high[node];
+                stayed[node] = other.stayed[node];
+                sunk[node] = other.sunk[node];
+            }
         }
 
         int hinges() {
